@@ -28,6 +28,9 @@ public final class YawnKeys {
     private static final int LANES = 4;
     private static final int MOST_ITEMS = 24;
 
+    /** Far above what Euclid's way needs for any two ints. */
+    private static final int MOST_DIVISIONS = 64;
+
     private static final int MOST_LETTERS = 50;
     private static final int FIRST_FAULT = -20;
     private static final String KIND_LETTERS = "dcolb";
@@ -511,7 +514,7 @@ public final class YawnKeys {
     private static int commonDivisor(int above, int below) {
         int rest = above;
         int divisor = below;
-        while (rest > 0) {
+        for (int i = 0; i < MOST_DIVISIONS && rest > 0; i++) {
             int left = divisor % rest;
             divisor = rest;
             rest = left;
@@ -874,7 +877,7 @@ public final class YawnKeys {
 
         private boolean readPeople(College into) {
             into.people = 0;
-            while (into.people < MOST_PEOPLE && nextLetter() == '/') {
+            for (int person = 0; person < MOST_PEOPLE && nextLetter() == '/'; person++) {
                 place++;
                 if (!readPerson(into)) {
                     return false;

@@ -159,6 +159,16 @@ public final class DoingsTest {
         x.drift(1);
         D.due("13 the draw", x.seed(377401575), 377401575);
         D.due("13 talked to by 0", x.count(5), 3);
+        // 13 makes the draw 1460808642: by 65536 22290, of three 0; by 256 5706283, of four 3; by 1024 1426570, 2.
+        YawnKeys thirteen = Due.collegeOf("20/daaaa/daaaa/daaaa;----");
+        thirteen.seed(13);
+        thirteen.drift(1);
+        D.due("13 the draw", thirteen.seed(1), 1460808642);
+        D.due("13 talked to", thirteen.wants(0, 3), 2);
+        D.due("13 no other", thirteen.count(5), 2);
+        YawnKeys single = Due.collegeOf("20/daaaa;----");
+        single.drift(1);
+        D.due("13 the only one", single.wants(0, 2), 3);
         // He is talked to ahead of the day: 11 and 3 are rule and 4 with the day's own 1.
         YawnKeys y = Due.collegeOf("8/daaaa/daaaa/daaia;--2-");
         D.due("13 gone in", y.drift(1), 1);

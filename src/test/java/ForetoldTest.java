@@ -97,6 +97,9 @@ public final class ForetoldTest {
         D.due("19 on the nail", Due.collegeOf("8/duaaa;----").in(0), -4);
         D.due("19 another door", Due.collegeOf("8/duaaa;0---").in(1), -4);
         D.due("19 nobody", new YawnKeys().in(3), -4);
+        for (int door = 0; door < 4; door++) {
+            D.due("19 four in a day", Due.collegeOf("1/duuuu;0000").in(door), 1);
+        }
         // COLD grows on even days alone: by 20 on day 38, the 39th day from day 0; from day 1 on day 40, the 40th.
         D.due("19 cold", coldFrom(0).in(0), 39);
         D.due("19 cold from an odd day", coldFrom(1).in(0), 40);
@@ -117,6 +120,9 @@ public final class ForetoldTest {
 
     private static void holds() {
         D.due("20 handed on", Due.collegeOf("8/dfaaa/daaaa;0---").holds(0), 3);
+        YawnKeys again = Due.collegeOf("8/dfaaa/daaaa;0---");
+        D.due("20 handed on", again.holds(0), 3);
+        D.due("20 asked again", again.holds(0), 3);
         D.due("20 gone in", Due.collegeOf("8/dlaaa/daaaa;0---").holds(0), 1);
         D.due("20 to himself is not another", Due.collegeOf("8/dhaaa/duaaa;0---").holds(0), 5);
         D.due("20 on the nail", Due.collegeOf("8/daaaa;-0--").holds(0), -4);
@@ -191,6 +197,22 @@ public final class ForetoldTest {
         D.due("22 one otherwise", one.keep(1, -2), 1);
         D.due("22 the first of like ones", one.keep(1, 0), 0);
         D.due("22 as it is", one.keep(1, 1), 2);
+        // Whoever has it, door 0 is gone in: of like ones the first.
+        YawnKeys once = Due.collegeOf("1/duaaa/duaaa/duaaa;----");
+        D.due("22 how often", once.keep(1, -1), 1);
+        D.due("22 all four", once.keep(1, -2), 4);
+        for (int door = 0; door < 4; door++) {
+            D.due("22 the first", once.keep(1, door), 0);
+        }
+        YawnKeys kept = Due.collegeOf("1/duaaa/duaaa/duaaa;2-2-");
+        D.due("22 two otherwise", kept.keep(1, -2), 2);
+        for (int door = 0; door < 4; door++) {
+            D.due("22 as it is, or the first", kept.keep(1, door), door % 2 == 0 ? 2 : 0);
+        }
+        // Four keys make a LOVER want 8 more a day, which by rule 1 is in every day.
+        YawnKeys lover = Due.collegeOf("1/laaaa;0000");
+        D.due("22 as often as can be", lover.keep(30, -1), 120);
+        D.due("22 none otherwise", lover.keep(30, -2), 0);
         // In them alone, not in all.
         one.days(1);
         D.due("22 gone in before", one.count(3), 1);
@@ -295,6 +317,9 @@ public final class ForetoldTest {
         for (int i = 0; i < 10; i++) {
             x.talk(0, 0, 1);
         }
+        x.image();
+        x.restore();
+        D.due("27 all eight", x.count(7), 8);
         x.undo();
         x.image();
         x.days(9);

@@ -203,8 +203,10 @@ public final class PeopleTest {
         x.image();
         D.due("8 gone in before", x.count(3) > 0 ? 1 : 0, 1);
         String before = Due.look(x);
+        x.then(60);
         D.due("8 a fault", Due.college(x, "8/daaaa;---"), -31);
         D.due("8 all else stays", before.equals(Due.look(x)) ? 1 : 0, 1);
+        x.then(60);
         D.due("8 a college", Due.college(x, "9/daaab;--0-"), 1);
         D.due("8 one is there", x.count(0), 1);
         D.due("8 day 0", x.count(1), 0);
@@ -216,6 +218,10 @@ public final class PeopleTest {
         D.due("8 the draw stays", x.seed(1), 77);
         D.due("8 sheets stay", x.drop(0), 3);
         D.due("8 the image stays", x.restore(), 1);
+        YawnKeys fresh = new YawnKeys();
+        fresh.seed(78);
+        Due.college(fresh, "9/daaab;--0-");
+        D.due("8 the draw stays", fresh.seed(1), 78);
         D.due("8 as it was", before.equals(Due.look(x)) ? 1 : 0, 1);
     }
 
@@ -230,6 +236,7 @@ public final class PeopleTest {
         fault("", 0);
         fault("   ", 3);
         fault("  x", 2);
+        fault("/daaaa;----", 0);
         fault("0/daaaa;----", 0);
         fault(" 21/daaaa;----", 1);
         fault("00/daaaa;----", 0);
@@ -271,6 +278,7 @@ public final class PeopleTest {
         for (int what = 0; what < 8; what++) {
             D.due("9 count(" + what + ")", x.count(what), due[what]);
         }
+        D.due("9 who keeps key 0", Due.collegeOf("7/daaaa;0---").count(6), 1);
         x.talk(1, 0, 20);
         x.days(2);
         int[] later = {3, 2, 7, 1, 2, 0, 0, 3};

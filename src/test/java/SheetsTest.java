@@ -177,6 +177,9 @@ public final class SheetsTest {
         D.due("30 refused: it stays", read(x, 0, 1, 5), 9);
         D.due("30 a new row", x.sheet(0, 1, 6), 6);
         D.due("30 of 0", read(x, 0, 1, 5), 0);
+        x.item(0, 1, 0, 4);
+        x.sheet(0, 1, 6);
+        D.due("30 of 0, the first, too", read(x, 0, 1, 0), 0);
         D.due("30 of another lane", x.sheet(0, 2, 6), 6);
         D.due("30 of another lane", read(x, 0, 1, 5), -12);
         for (int sheet = 0; sheet < 4; sheet++) {
