@@ -1,4 +1,4 @@
-/** The keys of a discreet college, each with whoever wants in least. Promises are named as the document numbers them. */
+/** The keys of a discreet college, each with whoever wants in least. Promises bear the document's numbers. */
 public final class YawnKeys {
     public static final int BAD = -1, NOT = -2, FULL = -3, NONE = -4, NULL = -11, CAST = -12, INDEX = -13, SIZE = -14;
 

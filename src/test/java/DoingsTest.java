@@ -155,7 +155,7 @@ public final class DoingsTest {
         D.due("13 no other", x.count(5), 3);
         D.due("13 the day", x.count(1), 1);
         D.due("13 one to be undone", x.count(7), 1);
-        // The next draw by this rule is 377401575: by 65536 5758, of three 1; by 256 1474224, of four 0; by 1024 368556, 0.
+        // The next draw is 377401575: by 65536 5758, of three 1; by 256 1474224, of four 0; by 1024 368556, 0.
         x.drift(1);
         D.due("13 the draw", x.seed(377401575), 377401575);
         D.due("13 talked to by 0", x.count(5), 3);

@@ -169,7 +169,8 @@ public final class ForetoldTest {
     private static long weighed(String text, int way, int people, int n) {
         YawnKeys x = Due.collegeOf(text);
         x.days(2);
-        int[] has = {way / (people * people * people), way / (people * people) % people, way / people % people, way % people};
+        int two = people * people;
+        int[] has = {way / (two * people), way / two % people, way / people % people, way % people};
         long others = 0;
         for (int door = 0; door < 4; door++) {
             others += x.give(door, has[door]) == -2 ? 0 : 1;

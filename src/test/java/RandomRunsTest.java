@@ -163,6 +163,7 @@ public final class RandomRunsTest {
             int filmed = x.film(a[0], a[1], 12, a[2], a[3], a[4]);
             D.due("film", filmed, m.film(a[0], a[1], 12, a[2], a[3], a[4]));
         }
-        return own ? x.told(a[0], a[1], a[2], a[3], a[4], a[5], a[6]) : m.told(a[0], a[1], a[2], a[3], a[4], a[5], a[6]);
+        return own ? x.told(a[0], a[1], a[2], a[3], a[4], a[5], a[6])
+                : m.told(a[0], a[1], a[2], a[3], a[4], a[5], a[6]);
     }
 }
