@@ -510,7 +510,7 @@ public final class YawnKeys {
         }
     }
 
-    /** Of a number from 0 on and one from 1 on: it is never 0. */
+    /** Of two numbers from 0 on: at least 1, so that it may divide. */
     private static int commonDivisor(int above, int below) {
         int rest = above;
         int divisor = below;
@@ -519,7 +519,7 @@ public final class YawnKeys {
             divisor = rest;
             rest = left;
         }
-        return divisor;
+        return Math.max(1, divisor);
     }
 
     /** All that UNDO brings back. */

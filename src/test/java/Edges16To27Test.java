@@ -17,6 +17,7 @@ public final class Edges16To27Test {
         promise19();
         promise20();
         promise21();
+        promiseFromNow();
         promise22();
         promise22LikeOnes();
         promise23();
@@ -170,6 +171,61 @@ public final class Edges16To27Test {
         });
     }
 
+    /** What was foretold before, or lived, is not in what is foretold now. */
+    private static void promiseFromNow() {
+        E.edge(16, "FORETOLD from now", () -> asItComes((x, door, n) -> x.keeper(door, n), (y, door, had) -> y.at(door, 0)));
+        E.edge(17, "FORETOLD from now", () -> asItComes((x, door, n) -> x.ahead(2, door, n), (y, door, had) -> y.wants(2, door)));
+        E.edge(18, "FORETOLD from now", () -> asItComes((x, door, n) -> x.then(n), (y, door, had) -> y.count(3)));
+        E.edge(21, "FORETOLD from now", () -> asItComes((x, door, n) -> x.had(door, n), (y, door, had) -> had));
+        E.edge(19, "FORETOLD from now", () -> {
+            YawnKeys x = college("8/dabcd;0000");
+            for (int door = 3; door >= 0; door--) {
+                E.due("door " + door, x.in(door), 12 - door);
+                E.due("door " + door + " again", x.in(door), 12 - door);
+            }
+        });
+        E.edge(20, "FORETOLD from now", () -> {
+            YawnKeys x = college("8/dabcd;0000");
+            for (int door = 3; door >= 0; door--) {
+                E.due("door " + door, x.holds(door), 12 - door);
+                E.due("door " + door + " again", x.holds(door), 12 - door);
+            }
+        });
+        E.edge(23, "TALKED to of it now", () -> {
+            YawnKeys x = college("8/dabcd;0000");
+            for (int door = 3; door >= 0; door--) {
+                E.due("door " + door, x.tempt(door, 1), 11 - door);
+                E.due("door " + door + " again", x.tempt(door, 1), 11 - door);
+            }
+        });
+    }
+
+    private interface Foretold {
+        int of(YawnKeys x, int door, int n);
+    }
+
+    private interface Lived {
+        int of(YawnKeys y, int door, int had);
+    }
+
+    /** What is foretold of each of 0 to 60 DAYS, the latest first, is what comes in them. */
+    private static void asItComes(Foretold foretold, Lived lived) {
+        for (int door = 0; door < 4; door++) {
+            YawnKeys x = Edges.rich();
+            int[] got = new int[61];
+            for (int n = 60; n >= 0; n--) {
+                got[n] = foretold.of(x, door, n);
+            }
+            YawnKeys y = Edges.rich();
+            int had = 0;
+            for (int n = 0; n <= 60; n++) {
+                had |= y.at(door, 0) == Edges.NONE ? 0 : 1 << y.at(door, 0);
+                E.due("door " + door + " behind " + n, got[n], lived.of(y, door, had));
+                y.days(1);
+            }
+        }
+    }
+
     private static void promise22() {
         // All keys are the only one's: by 5 and 15 he goes in on the 30th day, an even one.
         Edges.Made cold = () -> {
@@ -217,6 +273,11 @@ public final class Edges16To27Test {
             x.days(1);
             E.due("one before", x.count(3), 1);
             E.due("not those of before", x.keep(1, -1), 0);
+            YawnKeys often = college("1/luuuu;0000");
+            often.days(30);
+            E.due("as often before as then", often.count(3), 120);
+            E.due("those of then alone", often.keep(30, -1), 120);
+            E.due("asked again", often.keep(30, -1), 120);
             // Two keys make a LOVER want 4 a day, three 6: by rule 1 that is in.
             keeps("two each", college("1/laaaa/laaaa;0000"), 1, 0, 2, 0, 0, 1, 1);
         });
@@ -229,6 +290,8 @@ public final class Edges16To27Test {
         E.edge(22, "of like ones the first (who has key 0, then 1, rising)", () -> {
             keeps("two each from nails", college("1/laaaa/laaaa;----"), 1, 0, 4, 0, 0, 1, 1);
             keeps("two each, key 0 as it is", college("1/laaaa/laaaa;1---"), 1, 0, 3, 1, 0, 0, 1);
+            keeps("once, whoever has key 0", college("1/duaaa/duaaa/duaaa;----"), 1, 1, 4, 0, 0, 0, 0);
+            keeps("once, two as they are", college("1/duaaa/duaaa/duaaa;2-2-"), 1, 1, 2, 2, 0, 2, 0);
             keeps("two each, key 3 as it is", college("1/laaaa/laaaa;---0"), 1, 0, 3, 0, 1, 1, 0);
         });
     }
@@ -241,6 +304,7 @@ public final class Edges16To27Test {
         });
         E.edge(23, "the least n more (0 .. 20)", () -> {
             E.due("0", college("8/dlaaa;0---").tempt(0, 1), 0);
+            E.due("0 for one who wants it by 20", college("8/duaaa;0---").tempt(0, 1), 0);
             E.due("1", college("8/dkaaa;0---").tempt(0, 1), 1);
             E.due("19", coldOnOddDay(1).tempt(0, 1), 19);
             E.due("20", coldOnOddDay(0).tempt(0, 1), 20);

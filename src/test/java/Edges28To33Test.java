@@ -11,6 +11,7 @@ public final class Edges28To33Test {
         promise28Row();
         promise28Order();
         promise29();
+        promise29FromNow();
         promise29Row();
         promise29Order();
         promise30();
@@ -185,6 +186,26 @@ public final class Edges28To33Test {
             String before = Due.look(x);
             x.film(0, 0, 24, 0, 0, 0);
             E.same("the college is as before", Due.look(x), before);
+        });
+    }
+
+    /** Of something of everything, whatever was foretold before, the film is what comes. */
+    private static void promise29FromNow() {
+        E.edge(29, "By how much one WANTS a DOOR behind 1, 2, .. n DAYS", () -> {
+            for (int i = 0; i < 12; i++) {
+                int person = i / 4;
+                int door = i % 4;
+                YawnKeys x = Edges.rich();
+                YawnKeys y = Edges.rich();
+                x.then(9);
+                x.film(person, door, 8, 2, 2, 0);
+                StringBuilder comes = new StringBuilder("lane 2");
+                for (int n = 1; n <= 8; n++) {
+                    y.days(1);
+                    comes.append(' ').append(y.wants(person, door));
+                }
+                E.same("of " + person + ", door " + door, Edges.row(x, 2), comes.append(" end -13").toString());
+            }
         });
     }
 
