@@ -50,6 +50,17 @@ public final class Edges01To09Test {
             E.due("no image", new YawnKeys().restore(), Edges.NONE));
         E.edge(1, "One letter more behind THE TAPE: how many it has.", () ->
             E.due("no letter is there", new YawnKeys().type('8'), 1));
+        E.edge(1, "An object is used for at most 512 calls after it has been made", () -> {
+            YawnKeys x = new YawnKeys();
+            for (int i = 0; i < 39; i++) {
+                E.due("13 calls, time " + i, Due.college(x, "8/dabcu;0---"), 1);
+            }
+            E.due("call 508", x.days(40), 3);
+            E.due("call 509", x.count(1), 40);
+            E.due("call 510", x.count(7), 8);
+            E.due("call 511", x.undo(), 7);
+            E.due("call 512", x.count(1), 39);
+        });
         E.edge(1, "## Promise 1: A new object", () -> {
             String before = Edges.whole(new YawnKeys());
             Edges.whole(Edges.rich());
@@ -181,8 +192,8 @@ public final class Edges01To09Test {
         });
         E.edge(6, "(0: the NAIL)", () -> {
             E.due("nobody is there", new YawnKeys().at(0, 1), 0);
-            E.due("somebody is there", college("8/luuuu;-000").at(0, 1), 0);
-            E.due("and keeps the others", college("8/luuuu;-000").at(1, 1), 6);
+            E.due("somebody is there", college("8/laaaa;-000").at(0, 1), 0);
+            E.due("and keeps the others", college("8/laaaa;-000").at(1, 1), 6);
         });
         E.edge(6, "who WANTS it least now, of like ones the first; none: there is nobody", () -> {
             E.due("nobody", new YawnKeys().at(3, 2), Edges.NONE);
@@ -263,6 +274,8 @@ public final class Edges01To09Test {
                 x.days(1);
                 E.due("by 8 more than " + wants[i], x.wants(0, 3), due[i]);
             }
+            // What at() tells is by KIND alone: the document says 20 at most of the WANT.
+            E.due("told of who wants it by 20", college("20/luuuu;0000").at(0, 1), 8);
             YawnKeys y = college("20/laaaa/laaaa;0000");
             y.days(1);
             E.due("who keeps none does not want more", y.of(1, 2), 0);

@@ -350,6 +350,12 @@ public final class Edges10To15Test {
                 }
             }
         });
+        E.edge(13, "What is divided is cut.", () -> {
+            // 1103527590 by 65536 is 16838.5, of three 2; by 256 4310654.6, of four 2; by 1024 1077663.6, of four 3.
+            YawnKeys x = college("20/daaaa/daaaa/daaaa;----");
+            x.drift(1);
+            E.due("one of three, of one of four doors, by 3", x.wants(2, 2), 3);
+        });
         E.edge(13, "if there are PEOPLE, the one that it is", () -> {
             YawnKeys x = new YawnKeys();
             E.due("nobody", x.drift(1), 0);

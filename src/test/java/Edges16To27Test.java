@@ -320,6 +320,10 @@ public final class Edges16To27Test {
             YawnKeys x = college("8/dlaaa;0---");
             x.days(1);
             E.due("not those of before", x.tempt(0, 1), 11);
+            // 1 hands it on to 0 in the first day; from 8 on they have it in turn, till 0 goes in in the ninth.
+            YawnKeys turns = college("8/dhaaa/dhaaa;1---");
+            E.due("by whoever keeps it then", turns.tempt(0, 9), 0);
+            E.due("a day less", turns.tempt(0, 8), 1);
         });
         E.edge(23, "TALK; NONE. BAD.", () -> {
             E.refused("n 0, on the nail", YawnKeys::new, x -> x.tempt(0, 0), Edges.BAD);
